@@ -730,7 +730,6 @@ public final class BedsideNet {
 
         private void forget() {
             hasValue = false;
-            measuredInTie = false;
             alarm.forget();
         }
     }

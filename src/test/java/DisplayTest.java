@@ -22,6 +22,8 @@ public final class DisplayTest {
             net.device(device, device == 3 ? 1 : 0);
             net.channel(device, units[device][0], 0, 9, 1);
             net.channel(device, units[device][1], 0, 9, 1);
+            net.channel(device, 15, 0, 9, 1);
+            net.channel(device, 15, 0, 9, 1);
             net.seal(device);
         }
         net.device(4, 0);
@@ -108,6 +110,7 @@ public final class DisplayTest {
     private static void ageAndSilence() {
         BedsideNet net = Ward.monitor();
         net.bind(0, 0);
+        net.tick(1234);
         net.sample(0, 0, 10);
         net.tick(900);
         net.carry(0, false);

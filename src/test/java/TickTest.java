@@ -8,6 +8,9 @@ public final class TickTest {
         onlyOfThisTie();
         order();
         lostOnesCount();
+        soundsAnew();
+        fourChannels();
+        lastTime();
         CHECK.end();
     }
 
@@ -101,5 +104,63 @@ public final class TickTest {
         net.sample(0, 0, 77);
         CHECK.same("room again", net.message(65, 4), 77);
         CHECK.same("lost", net.count(3), 1);
+    }
+
+    private static void soundsAnew() {
+        BedsideNet net = Ward.alarmed(2, 0);
+        net.tick(5000);
+        net.sample(0, 0, 50);
+        Ward.carryNewest(net);
+        CHECK.same("999", net.tick(999), 0);
+        CHECK.same("1000: VALUE and SOUNDS", net.tick(1), 2);
+        CHECK.same("SOUNDS", net.message(Ward.newest(net), 0), 3);
+        net.sample(0, 0, 0);
+        net.sample(0, 0, 50);
+        net.tick(400);
+        Ward.carryNewest(net);
+        CHECK.same("at once, though one was sent just now", net.message(Ward.newest(net), 0), 3);
+        CHECK.same("VALUE alone", net.tick(600), 1);
+        CHECK.same("SOUNDS alone", net.tick(400), 1);
+    }
+
+    private static void fourChannels() {
+        BedsideNet net = new BedsideNet();
+        for (int device = 0; device < 8; device++) {
+            net.device(device, 0);
+            for (int k = 0; k < 4; k++) {
+                net.channel(device, k, 0, 100, 1);
+                net.alarm(device, k, 2, 40, 500);
+            }
+            net.seal(device);
+            Ward.tie(net, device, 0);
+            for (int k = 0; k < 4; k++) {
+                net.sample(device, k, 50);
+            }
+        }
+        Ward.dropAll(net);
+        CHECK.same("32 VALUEs and 32 ALARMs", net.tick(1000), 64);
+        for (int i = 63; i >= 32; i--) {
+            net.carry(net.count(200 + i), false);
+        }
+        Ward.dropAll(net);
+        CHECK.same("32 VALUEs and 8 SOUNDS", net.tick(1000), 40);
+        CHECK.same("the last channel of the last device", net.look(7, 38), 2);
+        CHECK.yes("restart", net.restart(7));
+        CHECK.same("silent", net.look(7, 5), 0);
+        CHECK.yes("confirm", net.confirm(7));
+        CHECK.same("28 VALUEs and 8 SOUNDS", net.tick(1000), 36);
+    }
+
+    /** More calls than the document speaks of: there is no other way to the time that it names. */
+    private static void lastTime() {
+        BedsideNet net = new BedsideNet();
+        for (int i = 0; i < 99999; i++) {
+            net.tick(10000);
+        }
+        net.tick(9999);
+        CHECK.throwing("later than that", IllegalArgumentException.class, () -> net.tick(2));
+        CHECK.same("just that", net.tick(1), 0);
+        CHECK.same("time", net.count(0), 1000000000);
+        CHECK.throwing("later", IllegalArgumentException.class, () -> net.tick(1));
     }
 }
