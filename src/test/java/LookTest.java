@@ -6,6 +6,7 @@ public final class LookTest {
         lookRefused();
         lookAtChannels();
         lookWithoutAlarm();
+        noneSuch();
         count();
         countOfMessages();
         CHECK.end();
@@ -63,6 +64,45 @@ public final class LookTest {
         }
         CHECK.same("no set-point", net.look(0, 9), 0);
         CHECK.same("no value of it", net.look(0, 6), -1);
+    }
+
+    /** "NONE if there is none such (bed, lease, level, value, set-point, channel)", and what is there next to it. */
+    private static void noneSuch() {
+        BedsideNet net = new BedsideNet();
+        CHECK.same("no bed", net.look(0, 1), -1);
+        net.device(0, 0);
+        CHECK.same("bed", net.look(0, 1), 0);
+        noneOfChannel(net, 0);
+        CHECK.same("no set-point", net.look(0, 6), -1);
+        net.setPoint(0, 20, 60, 5);
+        CHECK.same("set-point", net.look(0, 6), 20);
+        for (int k = 0; k < 4; k++) {
+            noneOfChannel(net, k);
+            net.channel(0, 0, 0, 100, 1);
+            CHECK.same("no alarm", net.look(0, 10 + 8 * k), 0);
+            net.alarm(0, k, 2, 40, 0);
+            CHECK.same("off", net.look(0, 10 + 8 * k), 1);
+            CHECK.same("no level", net.look(0, 11 + 8 * k), -1);
+            CHECK.same("has none", net.look(0, 12 + 8 * k), 0);
+            CHECK.same("no value", net.look(0, 13 + 8 * k), -1);
+            CHECK.same("the station knows none", net.look(0, 14 + 8 * k), 0);
+        }
+        net.seal(0);
+        CHECK.same("no lease", net.look(0, 7), -1);
+        net.lease(0, 0);
+        CHECK.same("lease", net.look(0, 7), 0);
+        Ward.tie(net, 0, 0);
+        net.sample(0, 3, 50);
+        CHECK.same("level", net.look(0, 35), 0);
+        CHECK.same("value", net.look(0, 37), 50);
+        net.sample(0, 3, 0);
+        CHECK.same("no level", net.look(0, 35), -1);
+    }
+
+    private static void noneOfChannel(BedsideNet net, int channel) {
+        for (int fact = 10; fact <= 14; fact++) {
+            CHECK.same("no channel " + channel, net.look(0, fact + 8 * channel), -1);
+        }
     }
 
     private static void count() {

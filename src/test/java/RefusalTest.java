@@ -10,7 +10,8 @@ import java.util.Random;
 public final class RefusalTest {
     private static final Check CHECK = new Check();
     private static final int RUNS = 400;
-    private static final int CALLS = 400;
+    // With a look at how many were sent ahead of each, these stay within the 512 calls of an object.
+    private static final int CALLS = 200;
     private static final String REFUSED = "refused";
     private static final int FIRST_LOOK = 18;
     private static final int KINDS = 22;
@@ -23,29 +24,29 @@ public final class RefusalTest {
     }
 
     private static void run(Random random, int seed) {
-        BedsideNet whole = new BedsideNet();
-        List<int[]> taken = new ArrayList<>();
+        BedsideNet net = new BedsideNet();
+        List<int[]> all = new ArrayList<>();
+        describe(random, all);
         List<String> answers = new ArrayList<>();
-        describe(random, taken);
-        for (int[] call : taken) {
-            answers.add(answer(whole, call));
+        for (int[] call : all) {
+            answers.add(answer(net, call));
         }
+        Script taken = new Script();
+        all.forEach(call -> taken.then(object -> answer(object, call)));
+        Script whole = taken.copy();
         for (int i = 0; i < CALLS; i++) {
-            int[] call = anyCall(random, whole.count(1));
-            String answer = answer(whole, call);
+            int[] call = anyCall(random, net.count(1));
+            String answer = answer(net, call);
+            whole.then(object -> answer(object, call));
             if (!answer.equals(REFUSED) && call[0] < FIRST_LOOK) {
-                taken.add(call);
+                taken.then(object -> answer(object, call));
                 answers.add(answer);
             }
         }
-        BedsideNet part = new BedsideNet();
-        for (int i = 0; i < taken.size(); i++) {
-            if (!answer(part, taken.get(i)).equals(answers.get(i))) {
-                CHECK.tell("run " + seed + ": call " + i + " is answered otherwise without the refused ones");
-                return;
-            }
+        if (!taken.answers().equals(answers)) {
+            CHECK.tell("run " + seed + ": calls are answered otherwise without the refused ones");
         }
-        if (!everything(part).equals(everything(whole))) {
+        if (!taken.sight().equals(whole.sight())) {
             CHECK.tell("run " + seed + ": the objects are not alike");
         }
     }
@@ -152,19 +153,5 @@ public final class RefusalTest {
 
     private static String told(int answer) {
         return Integer.toString(answer);
-    }
-
-    private static String everything(BedsideNet net) {
-        StringBuilder all = new StringBuilder();
-        for (int kind = FIRST_LOOK; kind < KINDS; kind++) {
-            int firsts = kind == 20 ? net.count(1) : kind == 21 ? 310 : 16;
-            int whats = kind == 19 ? 40 : kind == 21 ? 1 : 5;
-            for (int first = 0; first < firsts; first++) {
-                for (int what = 0; what < whats; what++) {
-                    all.append(answer(net, new int[] {kind, first, what})).append(' ');
-                }
-            }
-        }
-        return all.toString();
     }
 }

@@ -138,7 +138,13 @@ public final class TickTest {
             }
         }
         Ward.dropAll(net);
+        int first = net.count(1);
         CHECK.same("32 VALUEs and 32 ALARMs", net.tick(1000), 64);
+        for (int i = 0; i < 64; i++) {
+            CHECK.same("VALUEs, then ALARMs", net.message(first + i, 0), i < 32 ? 1 : 2);
+            CHECK.same("device by device", net.message(first + i, 1), i % 32 / 4);
+            CHECK.same("channel by channel", net.message(first + i, 2), i % 4);
+        }
         for (int i = 63; i >= 32; i--) {
             net.carry(net.count(200 + i), false);
         }
