@@ -9,6 +9,7 @@ public final class TickTest {
         order();
         lostOnesCount();
         soundsAnew();
+        allByNumbers();
         fourChannels();
         lastTime();
         CHECK.end();
@@ -123,7 +124,8 @@ public final class TickTest {
         CHECK.same("SOUNDS alone", net.tick(400), 1);
     }
 
-    private static void fourChannels() {
+    /** Eight devices with four channels each, all with values above their limits; nothing is pending. */
+    private static BedsideNet allChannels() {
         BedsideNet net = new BedsideNet();
         for (int device = 0; device < 8; device++) {
             net.device(device, 0);
@@ -138,6 +140,12 @@ public final class TickTest {
             }
         }
         Ward.dropAll(net);
+        return net;
+    }
+
+    /** "Of all devices and channels, what happens in one call comes by numbers" */
+    private static void allByNumbers() {
+        BedsideNet net = allChannels();
         int first = net.count(1);
         CHECK.same("32 VALUEs and 32 ALARMs", net.tick(1000), 64);
         for (int i = 0; i < 64; i++) {
@@ -145,6 +153,11 @@ public final class TickTest {
             CHECK.same("device by device", net.message(first + i, 1), i % 32 / 4);
             CHECK.same("channel by channel", net.message(first + i, 2), i % 4);
         }
+    }
+
+    private static void fourChannels() {
+        BedsideNet net = allChannels();
+        net.tick(1000);
         for (int i = 63; i >= 32; i--) {
             net.carry(net.count(200 + i), false);
         }
