@@ -10,6 +10,7 @@ public final class EdgesTest {
 
     public static void main(String[] args) {
         theLastOf512Calls();
+        eachObjectByItself();
         tieEndsWithThePatient();
         tieEndsWithAnotherPatient();
         tieEndsByMoving();
@@ -46,6 +47,24 @@ public final class EdgesTest {
             made += 2;
         }
         CHECK.same("the last call", net.count(1), 253);
+    }
+
+    /** "No device is sealed; no patients; time 0": also of an object that is made behind another one, and stays so. */
+    private static void eachObjectByItself() {
+        BedsideNet first = Ward.busy().object();
+        BedsideNet second = new BedsideNet();
+        first.sample(0, 0, 60);
+        first.tick(1000);
+        for (int what = 0; what <= 6; what++) {
+            CHECK.same("count " + what, second.count(what), 0);
+        }
+        CHECK.same("no patient", second.count(300), 0);
+        for (int device = 0; device < 8; device++) {
+            CHECK.same("not begun", second.look(device, 0), 0);
+        }
+        CHECK.yes("device", second.device(0, 3));
+        CHECK.same("the first one's bed", first.look(0, 1), 0);
+        CHECK.same("the first one's value", first.look(0, 13), 60);
     }
 
     /** "the tie ends when the bed's patient ends" */

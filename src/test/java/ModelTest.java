@@ -11,7 +11,7 @@ import java.util.TreeMap;
  */
 public final class ModelTest {
     private static final Check CHECK = new Check();
-    private static final int RUNS = 1200;
+    private static final int RUNS = 1500;
     private static final int CALLS_OF_AN_OBJECT = 512;
     private static final int DEVICES_IN_USE = 3;
     private static final int[] SPANS = {
@@ -109,13 +109,13 @@ public final class ModelTest {
             isAlike(0, device, pick(0, 0, 1));
             int channels = 1 + random.nextInt(2);
             for (int channel = 0; channel < channels; channel++) {
-                isAlike(1, device, random.nextInt(2), 0, 10, pick(1, 1, 2));
+                isAlike(1, device, random.nextInt(2), pick(0, -4, 1), 10, pick(1, 1, 3));
                 if (random.nextInt(8) != 0) {
                     isAlike(2, device, channel, 1 + random.nextInt(3), 5, pick(0, 0, 500, 1000, 2500));
                 }
             }
             if (random.nextInt(4) != 0) {
-                isAlike(3, device, 0, 10, 5);
+                isAlike(3, device, pick(0, -3), 10, 5);
             }
             if (random.nextInt(12) != 0) {
                 isAlike(4, device);
@@ -133,7 +133,7 @@ public final class ModelTest {
     private int[] anyDeed() {
         int pick = random.nextInt(100);
         if (pick < 22) {
-            return new int[] {8, anyDevice(), anyChannel(), pick(0, 2, 4, 5, 6, 8, 10)};
+            return new int[] {8, anyDevice(), anyChannel(), pick(-4, -1, 0, 1, 4, 5, 6, 7, 8, 10)};
         }
         if (pick < 40) {
             return new int[] {9, pick(SPANS)};
@@ -154,15 +154,17 @@ public final class ModelTest {
             case 0, 1 -> new int[] {16, random.nextInt(2), anyDevice()};
             case 2, 3, 4 -> anyOrder();
             case 5 -> new int[] {18, anyDevice(), BedsideNet.NONE, random.nextInt(4) == 0 ? 0 : 1};
-            case 6 -> new int[] {18, anyDevice(), pick(0, 5, 10, 7), random.nextInt(2)};
+            case 6 -> new int[] {18, anyDevice(), pick(-3, 0, 2, 5, 7, 10), random.nextInt(2)};
             default -> new int[] {15, anyDevice(), anyChannel(), pick(0, 1, 500, 1000, 3000, 100000)};
         };
     }
 
     private int[] anyOrder() {
         int device = anyDevice();
-        int expected = random.nextBoolean() ? model.look(device, 6) : pick(0, 5, 10);
-        return new int[] {17, random.nextInt(2), device, pick(0, 5, 10, 10, 7), expected};
+        int expected = random.nextBoolean() ? model.look(device, 6) : pick(-3, 0, 2, 5);
+        // Mostly the one that has the lease, as nothing comes of the others' orders.
+        int controller = random.nextInt(4) == 0 ? random.nextInt(4) : Math.max(model.look(device, 7), 0);
+        return new int[] {17, controller, device, pick(-3, 0, 2, 5, 7, 10), expected};
     }
 
     private int[] anySeldomDeed() {
@@ -178,7 +180,7 @@ public final class ModelTest {
             case 6 -> new int[] {0, pick(device, 7), random.nextInt(4)};
             case 7 -> new int[] {1, pick(device, 7), random.nextInt(2), 0, 10, 1};
             case 8 -> new int[] {2, pick(device, 7), anyChannel(), 2, 5, 0};
-            case 9 -> new int[] {3, pick(device, 7), 0, 10, 5};
+            case 9 -> new int[] {3, pick(device, 7), -3, 10, 5};
             case 10 -> new int[] {4, pick(device, 7)};
             default -> new int[] {7, device};
         };
